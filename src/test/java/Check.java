@@ -1,6 +1,11 @@
+import java.util.Arrays;
+import java.util.stream.IntStream;
+import java.util.stream.LongStream;
+
 /** Compares answers with those that are due, and ends a test. */
 final class Check {
     private final String test;
+    private String sentence = "";
     private int calls;
     private int wrong;
 
@@ -8,12 +13,31 @@ final class Check {
         this.test = test;
     }
 
+    /** The sentence of the document that the next answers are due by; one that it does not have is a failure. */
+    void says(String quote) {
+        sentence = quote;
+        if (!Doc.has(quote)) {
+            complain("the document does not say that");
+        }
+    }
+
     void due(String call, long got, long want) {
         calls++;
         if (got != want) {
-            wrong++;
-            System.out.println(test + ": " + call + " answered " + got + ", due is " + want);
+            complain(call + " answered " + got + ", due is " + want);
         }
+    }
+
+    void due(String what, String got, String want) {
+        calls++;
+        if (!got.equals(want)) {
+            complain(what + ":\n  " + got + "\n  due is\n  " + want);
+        }
+    }
+
+    private void complain(String why) {
+        wrong++;
+        System.out.println(test + ": " + (sentence.isEmpty() ? "" : "[" + sentence + "] ") + why);
     }
 
     /** Types a text and reads it: what book() answers. */
@@ -34,21 +58,49 @@ final class Check {
         return x;
     }
 
-    /** The switches of a row of moves behind one another, as digits. */
+    void tells(String text, int due) {
+        due("book of '" + text + "'", tell(new SwitchBook(), text), due);
+    }
+
+    /** The place of ^ is that of the fault; ^ itself is not told. */
+    void faults(String marked) {
+        int place = marked.indexOf('^');
+        tells(marked.substring(0, place) + marked.substring(place + 1), -10 - place);
+    }
+
+    /** Numbers beyond both edges: next to them, where bits or bytes wrap around, and the ends of int. */
+    static int[] beyond(int least, int most) {
+        long[] steps = {1, 2, 8, 16, 31, 32, 64, 256, 65536, 1L << 31};
+        LongStream near = Arrays.stream(steps).flatMap(s -> LongStream.of(least - s, most - s, least + s, most + s));
+        IntStream ends = IntStream.of(Integer.MIN_VALUE, Integer.MIN_VALUE + 1, Integer.MAX_VALUE - 1, Integer.MAX_VALUE);
+        return IntStream.concat(near.mapToInt(v -> (int) v), ends)
+            .filter(v -> v < least || v > most).distinct().sorted().toArray();
+    }
+
+    /** A call by one number. */
     interface Row {
         int at(int k);
     }
 
+    void dueBadBeyond(String call, int least, int most, Row row) {
+        for (int v : beyond(least, most)) {
+            due(call + " by " + v, row.at(v), SwitchBook.BAD);
+        }
+    }
+
+    /** The cost of a row of moves, and its switches behind one another, as digits. */
     void dueRow(String call, Row row, int cost, String switches) {
         due(call + " cost", row.at(-1), cost);
         StringBuilder got = new StringBuilder();
         for (int k = 0; k < 300 && row.at(k) != SwitchBook.NONE; k++) {
             got.append(row.at(k));
         }
-        calls++;
-        if (!got.toString().equals(switches)) {
-            wrong++;
-            System.out.println(test + ": " + call + " goes by " + got + ", due is " + switches);
+        due(call + " goes by", got.toString(), switches);
+    }
+
+    void dueNone(String call, Row row) {
+        for (int k : new int[] {-1, 0, 1, 255, 256, Integer.MAX_VALUE}) {
+            due(call + " by " + k, row.at(k), SwitchBook.NONE);
         }
     }
 
