@@ -11,6 +11,7 @@ final class Check {
 
     Check(String test) {
         this.test = test;
+        Watch.start(test);
     }
 
     /** The sentence of the document that the next answers are due by; one that it does not have is a failure. */
@@ -46,6 +47,13 @@ final class Check {
             x.type(text.charAt(i));
         }
         return x.book();
+    }
+
+    /** Calls until a count is as great as it may be, or should be long since. */
+    static void fill(SwitchBook x, int what, int most, Runnable call) {
+        for (int i = 0; i <= most && x.count(what) < most; i++) {
+            call.run();
+        }
     }
 
     static SwitchBook told(String text) {

@@ -72,6 +72,11 @@ public final class EdgeNowTest {
         for (int letter = 'b'; letter <= 'y'; letter++) check.due("none", x.named(letter), SwitchBook.NONE);
         check.dueBadBeyond("named", 'a', 'z', x::named);
         check.dueBadBeyond("named, no switches", 'a', 'z', new SwitchBook()::named);
+        SwitchBook eight = Check.told("n6;bb0 1;bd1 2;bf2 3;bh3 4;bj4 5;bl0 2;bn1 3;bp2 4;");
+        for (int letter = 'a'; letter <= 'z'; letter++) {
+            int place = "bdfhjlnp".indexOf(letter);
+            check.due("of eight", eight.named(letter), place < 0 ? SwitchBook.NONE : place);
+        }
         for (int no : new int[] {'A', 'Z', '0', ' ', ';', 0}) check.due("named " + no, x.named(no), SwitchBook.BAD);
     }
 
@@ -198,6 +203,10 @@ public final class EdgeNowTest {
         for (String closed : new String[] {"", "ca;"}) {
             why("s0;s1;ia0 1;" + closed, 'a', 2);
             why("s0;s1;ia1 0;" + closed, 'a', 2);
+            for (String loads : new String[] {"d0;", "d1;", "d0;d1;"}) {
+                why("s0;s1;ia0 1;" + loads + closed, 'a', 2);
+                why("s0;s1;ia1 0;" + loads + closed, 'a', 2);
+            }
             why("s0;ia0 1;" + closed, 'a', 0);
             why("s1;ia0 1;" + closed, 'a', 0);
             why("ia0 1;" + closed, 'a', 0);
@@ -319,6 +328,8 @@ public final class EdgeNowTest {
         check.due("a breaker", Check.told("ba0 1;").now(7), 1);
         check.due("an isolator", Check.told("ia0 1;").now(7), 2);
         check.due("an earth", Check.told("ea0;").now(7), 3);
+        check.due("that nothing is closed", Check.told("ba0 1;ib1 2;ca;cb;").now(7), 3);
+        check.due("that all is closed", Check.told("ba0 1;ib1 2;").now(7), 3);
         SwitchBook x = Check.told(EIGHT_EARTHS);
         check.due("eight earths", x.now(7), 24);
         x.prices(1, 1, 9);

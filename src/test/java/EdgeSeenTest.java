@@ -56,7 +56,7 @@ public final class EdgeSeenTest {
             check.due("nothing came", x.count(3), 0);
             check.due("the first node", x.sees(0, 0), 1);
             check.due("the last node", x.sees(n - 1, 1), 2);
-            while (x.count(3) < 6) x.sees(0, 0);
+            Check.fill(x, 3, 6, () -> x.sees(0, 0));
             check.dueBadBeyond("BAD ahead of FULL", 0, n - 1, u -> x.sees(u, 0));
             check.dueBadBeyond("BAD ahead of FULL", 0, 1, live -> x.sees(0, live));
         }

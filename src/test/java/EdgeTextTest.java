@@ -216,6 +216,9 @@ public final class EdgeTextTest {
         x.clear();
         for (int i = 0; i < 120; i++) x.type(i == 119 ? 'x' : ' ');
         check.due("a fault at 119", x.book(), -129);
+        x.clear();
+        for (int i = 0; i < 120; i++) x.type(i < 118 ? ' ' : "s0".charAt(i - 118));
+        check.due("a number at the end of all", x.book(), -130);
     }
 
     private static void blanks() {
@@ -494,6 +497,13 @@ public final class EdgeTextTest {
         check.due("as many as there may be", x.clear(), 120);
         check.due("empty", x.count(4), 0);
         check.due("what it had is gone", Check.tell(x, "s0;"), 1);
+        // What stood behind the new text's end is gone as well.
+        for (String tail : new String[] {"0", "1", ";", " ;", "x"}) {
+            for (char c : ("s0" + tail).toCharArray()) x.type(c);
+            x.clear();
+            check.due("s0 behind s0" + tail, Check.tell(x, "s0"), -12);
+            x.clear();
+        }
         x.lists(0);
         x.type('x');
         x.clear();
@@ -552,6 +562,19 @@ public final class EdgeTextTest {
             check.due("nothing seen", x.forget(), 0);
             check.due("image 0 is gone", x.back(0), SwitchBook.STATE);
             check.due("image 1 is gone", x.back(1), SwitchBook.STATE);
+        }
+        // Nothing of any earlier text is left, whichever texts come behind one another.
+        String[] texts = {text, "n2;", "", "n6;s5;ba0 1;bb5 0;ic0 1;id5 4;ee1;ca;cc;ka;kd;", "s0;d1;ia0 1;ib0 2;", "ba0 1;ib1 2;ec0;",
+            "d0;d1;d2;ea0;eb1;ec2;ed0;ee1;ef2;eg0;eh1;ca;ch;kb;kg;", "s1;"};
+        for (String first : texts) {
+            for (String second : texts) {
+                for (String third : texts) {
+                    SwitchBook x = Check.told(first);
+                    Check.tell(x, second);
+                    Check.tell(x, third);
+                    check.due("'" + first + "', '" + second + "', '" + third + "'", Portrait.of(x), Portrait.of(Check.told(third)));
+                }
+            }
         }
     }
 }

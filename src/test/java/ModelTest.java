@@ -3,7 +3,8 @@ import java.util.Random;
 /** Random runs of calls, each answer compared with the slow model's; the seeds are fixed. */
 public final class ModelTest {
     private static final int RUNS = 400;
-    private static final int CALLS = 512;
+    // An object is used for 512 calls at most; one turn makes up to seven.
+    private static final int CALLS = 512 - 7;
 
     private final Random random;
     private final SwitchBook fast = new SwitchBook();
@@ -17,6 +18,7 @@ public final class ModelTest {
     }
 
     public static void main(String[] args) {
+        Watch.start("ModelTest");
         for (int run = 0; run < RUNS; run++) {
             ModelTest test = new ModelTest(run);
             test.go();

@@ -60,9 +60,7 @@ public final class RefusedTest {
     private static void type() {
         check.says("A letter (0 .. 255) comes to THE TEXT: how many it has. BAD; FULL.");
         nothingChanges("type, BAD", x -> check.dueBadBeyond("type", 0, 255, x::type));
-        Consumer<SwitchBook> fill = x -> {
-            while (x.count(4) < 120) x.type(' ');
-        };
+        Consumer<SwitchBook> fill = x -> Check.fill(x, 4, 120, () -> x.type(' '));
         nothingChanges("type, FULL", fill, x -> {
             for (int letter : new int[] {';', 's', ' ', 0, 255}) check.due("type " + letter, x.type(letter), SwitchBook.FULL);
         });
@@ -143,9 +141,7 @@ public final class RefusedTest {
     private static void lists() {
         check.says("A SWITCH comes behind THE ORDER: how many it has. BAD; FULL.");
         nothingChanges("lists, BAD", x -> check.dueBadBeyond("lists", 0, 3, x::lists));
-        nothingChanges("lists, FULL", x -> {
-            while (x.count(2) < 12) x.lists(0);
-        }, x -> {
+        nothingChanges("lists, FULL", x -> Check.fill(x, 2, 12, () -> x.lists(0)), x -> {
             for (int k = 0; k < 4; k++) check.due("lists", x.lists(k), SwitchBook.FULL);
         });
     }
@@ -169,7 +165,7 @@ public final class RefusedTest {
     private static void undo() {
         check.says("UNDONE: how many more may be. STATE: none.");
         nothingChanges("undo", x -> {
-            while (x.now(8) > 0) x.undo();
+            for (int i = 0; i < 4; i++) x.undo();
         }, x -> check.due("undo", x.undo(), SwitchBook.STATE));
         nothingChanges("undo behind back()", x -> x.back(1), x -> check.due("undo", x.undo(), SwitchBook.STATE));
     }
@@ -204,9 +200,7 @@ public final class RefusedTest {
             check.dueBadBeyond("sees", 0, 2, u -> x.sees(u, 1));
             check.dueBadBeyond("sees 0", 0, 1, live -> x.sees(0, live));
         });
-        nothingChanges("sees, FULL", x -> {
-            while (x.count(3) < 6) x.sees(2, 0);
-        }, x -> {
+        nothingChanges("sees, FULL", x -> Check.fill(x, 3, 6, () -> x.sees(2, 0)), x -> {
             for (int u = 0; u < 3; u++) check.due("sees", x.sees(u, u % 2), SwitchBook.FULL);
         });
     }
@@ -222,9 +216,9 @@ public final class RefusedTest {
     private static void firstOfTwo() {
         check.says("Refused, and nothing changes, the first of these: BAD (a number is not as told, or there is no such thing), STATE (as told), FULL.");
         SwitchBook x = Check.told("ba0 1;ka;");
-        while (x.count(4) < 120) x.type(' ');
-        while (x.count(2) < 12) x.lists(0);
-        while (x.count(3) < 6) x.sees(0, 0);
+        Check.fill(x, 4, 120, () -> x.type(' '));
+        Check.fill(x, 2, 12, () -> x.lists(0));
+        Check.fill(x, 3, 6, () -> x.sees(0, 0));
         check.due("type is full", x.type(0), SwitchBook.FULL);
         check.due("type is bad, too", x.type(256), SwitchBook.BAD);
         check.due("type is bad, too", x.type(-1), SwitchBook.BAD);
