@@ -18,8 +18,12 @@ final class Doc {
         }
     }
 
-    private static String plain(String words) {
+    static String plain(String words) {
         return words.replace("`", "").replaceAll("\\s+", " ");
+    }
+
+    static String words() {
+        return WORDS;
     }
 
     /** Where the document is not at hand, nothing is held against a quote. */
